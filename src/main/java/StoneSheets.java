@@ -1317,7 +1317,7 @@ public final class StoneSheets {
         private boolean takeBehind(Law law, int sign) {
             if (sign == ')' && brackets > 0) {
                 unwind(law, 1);
-                pop();
+                top--;
                 brackets--;
                 endPiece(law);
                 return true;
@@ -1337,7 +1337,8 @@ public final class StoneSheets {
 
         private void endPiece(Law law) {
             while (top > 0 && peek() == '!') {
-                law.add(-pop());
+                law.add(-peek());
+                top--;
                 nots--;
             }
             wanting = false;
@@ -1346,7 +1347,8 @@ public final class StoneSheets {
         /** Signs that bind as much, or more, join what stands ahead of them; a bracket that is open holds them up. */
         private void unwind(Law law, int rank) {
             while (top > 0 && rankOf(peek()) >= rank) {
-                law.add(-pop());
+                law.add(-peek());
+                top--;
             }
         }
 
@@ -1374,14 +1376,6 @@ public final class StoneSheets {
 
         private int peek() {
             return top > 0 && top <= signs.length ? signs[top - 1] : 0;
-        }
-
-        private int pop() {
-            int sign = peek();
-            if (top > 0) {
-                top--;
-            }
-            return sign;
         }
     }
 

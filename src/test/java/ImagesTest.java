@@ -134,6 +134,21 @@ public final class ImagesTest {
       d.due("it counts", s.fee(), 1234);
       s.feed(1, 2, 3);
     }
+    StoneSheets t = new StoneSheets();
+    t.keep();
+    Due.laid(t, 3, "3333", 5);
+    t.set(0, 3, 1);
+    t.set(0, 5, 7);
+    d.due("back() to none", t.back(), 0);
+    t.rubbing(0, Due.raw("01"), 2);
+    d.due("a new RUBBING where another one was", Due.says(t, 0), "01");
+    int[] fresh = {0, Due.raw("01"), 2, 0, 16, 50};
+    for (int what = 0; what < 6; what++) d.due("told(0, " + what + ") of it", t.told(0, what), fresh[what]);
+    t.set(0, 3, 1);
+    t.keep();
+    t.set(0, 3, 0);
+    t.back();
+    d.due("TURNED is kept", t.told(0, 3), 1);
     d.due("back() of a new object", new StoneSheets().back(), Due.NO);
     s.keep();
     s.carve(0, 3);

@@ -33,6 +33,11 @@ public final class LiesTest {
     s.rubbing(0, Due.raw("12"), 2);
     d.due("the least of several", s.fits(0, 0), 4);
     d.due("FALSE there", s.fits(0, 1), 0);
+    s.carve(1, 1);
+    s.carve(2, 2);
+    d.due("at 1", s.fits(0, 0), 1);
+    s.carve(1, 0);
+    s.carve(2, 0);
     s.rubbing(0, Due.raw("123"), 3);
     d.due("at the last x", s.fits(1, 0), 13);
     d.due("FALSE at the last x", s.fits(1, 1), 0);
@@ -64,6 +69,14 @@ public final class LiesTest {
     d.due("join(1, 0, 1)", s.join(1, 0, 1), -1);
     d.due("join(3, 1, 0)", s.join(3, 1, 0), 0);
     d.due("join(3, 1, 1): 2 alike less 2 for each of 2", s.join(3, 1, 1), -2);
+    StoneSheets u = new StoneSheets();
+    u.rubbing(0, Due.raw("01231111"), 3);
+    u.rubbing(0, Due.raw("121"), 2);
+    d.due("at 1", u.join(0, 1, 0), 1);
+    d.due("RAW beyond SIZE does not count", u.join(0, 1, 1), 2);
+    u.set(0, 2, 4);
+    u.rubbing(0, Due.raw("231"), 2);
+    d.due("nor does that of the other", u.join(0, 2, 1), 2);
     s.turns(1, 5);
     d.due("as MADE (2 2 2 2)", s.join(0, 1, 1), -1);
     d.due("as MADE, where", s.join(0, 1, 0), 2);
@@ -119,6 +132,9 @@ public final class LiesTest {
     d.due("one that is LAID nowhere", s.undone(), Due.set(0, 1));
     s.set(0, 4, 16);
     d.due("one against two", s.undone(), Due.set(1));
+    s.set(2, 4, 16);
+    s.set(3, 4, 16);
+    d.due("none against it by now", s.undone(), 0);
     StoneSheets t = new StoneSheets();
     for (int k = 0; k < 9; k++) Due.laid(t, 0, "00", k);
     d.due("a chain of nine", t.undone(), 0);
@@ -174,6 +190,15 @@ public final class LiesTest {
     d.due("how many then", s.look(1), 1);
     s.set(1, 4, 16);
     d.due("LAID nowhere", s.look(0), 15);
+    s.carve(1, 1);
+    Due.laid(s, 0, "00", 0);
+    d.due("at 1", s.look(0), 1);
+    s.carve(0, 1);
+    d.due("at 0", s.look(0), 0);
+    s.carve(1, 0);
+    d.due("at 0 alone", s.look(0), 0);
+    s.carve(0, 0);
+    d.due("not at 0", s.look(0), 15);
     d.due("look(2)", s.look(2), Due.BAD);
     d.due("look(-1)", s.look(-1), Due.BAD);
   }

@@ -124,6 +124,11 @@ public final class SheetsTest {
     d.due("the same, onwards", row(s, 0), "1 1 2 - 4");
     d.due("copy(0, 1, 0, 0, 4)", s.copy(0, 1, 0, 0, 4), 4);
     d.due("the same, backwards", row(s, 0), "1 2 - 4 4");
+    s.sheet(3, 1, 24);
+    d.due("all of 24", s.copy(3, 0, 3, 0, 24), 24);
+    d.due("into 24", s.copy(0, 1, 3, 23, 1), 1);
+    d.due("beyond 24", s.copy(0, 1, 3, 23, 2), Due.INDEX);
+    s.sheet(3, -1, 0);
     d.due("none", s.copy(0, 5, 1, 3, 0), 0);
     d.due("none, beyond", s.copy(0, 6, 1, 3, 0), Due.INDEX);
     d.due("none, to beyond", s.copy(0, 5, 1, 4, 0), Due.INDEX);

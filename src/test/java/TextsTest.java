@@ -62,12 +62,12 @@ public final class TextsTest {
       "7", "0007", "n", "f", "2+3*4", "2*3+4", "9-3-2", "100/7", "100/7*7", "100*7/9", "7/0", "0-7/2", "(0-7)/2",
       "!0", "!5", "!!5", "!0+1", "!n*4", "! ( 0 ) + 1", "1<2", "2<2", "2=2", "2>1", "1>2", "1+1=2", "5&3", "5&0", "0&0", "0|0", "4|0", "0|6",
       "1|0&0", "(1|0)&0", "1<2&2<3", "1<2&3<2", "1=1=1", "n+f*10", "(((((((1)))))))", "((((((((1))))))))", "!!!!!!!!3", "n-f-1",
-      "9999*9999*9999", "2*(3+4)*5", "1-(2-3)", "12/(2*3)", "12/2*3", "3 > 2 | 1", "3-1>1", "0&1/0"};
+      "9999*9999*9999", "2*(3+4)*5", "1-(2-3)", "12/(2*3)", "12/2*3", "3 > 2 | 1", "3-1>1", "0&1/0", "1=2", "2>2", "(0|1)*5", "5*(1|0)+(0&1)", "1|0=2"};
     int[] due = {
       7, 7, 3, 1, 14, 10, 4, 14, 98, 77, 0, -3, -3,
       1, 0, 1, 2, 0, 2, 1, 0, 1, 1, 0, 1, 1, 0, 0, 0, 1, 1,
       1, 0, 1, 0, 0, 13, 1, 1, 1, 1,
-      (int) (9999L * 9999L * 9999L), 70, 2, 2, 18, 1, 1, 0};
+      (int) (9999L * 9999L * 9999L), 70, 2, 2, 18, 1, 1, 0, 0, 0, 5, 5, 1};
     StoneSheets s = withTides();
     for (int i = 0; i < sums.length; i++) {
       s.back();
@@ -103,6 +103,11 @@ public final class TextsTest {
     fault("  gains 1", 2);
     fault("gai 1", 0);
     fault("Gain 1", 0);
+    fault("pain 1", 0);
+    fault("see 1", 0);
+    fault("fee nz", 4);
+    fault("fee na", 4);
+    fault("fee z", 4);
     fault("7", 0);
     fault("(gain 1)", 0);
     fault("gain", 4);
@@ -168,6 +173,12 @@ public final class TextsTest {
     d.due("count(3)", s.count(3), 14);
     d.due("the TEXT that counts still", s.why(1), 12);
     StoneSheets longest = new StoneSheets();
+    StoneSheets behind = new StoneSheets();
+    Due.text(behind, "fee ((((((((!!!!!!!!(");
+    d.due("a TEXT behind one with a FAULT", Due.text(behind, "fee ((((((((!!!!!!!!1))))))))"), 0);
+    Due.text(behind, "fee (2-");
+    d.due("an end behind an open bracket of another TEXT", Due.text(behind, "fee 7"), 1);
+    d.due("what it gives", behind.fee(), 7);
     StringBuilder all = new StringBuilder("fee 1");
     while (all.length() < 95) all.append("+1");
     d.due("a TEXT of 95 bytes", Due.text(longest, all.toString()), 0);

@@ -34,6 +34,16 @@ public final class TidesTest {
     d.due("TRUST of one that came below 0", s.told(2, 5), 0);
     d.due("LAID of one that came below 0", s.told(2, 4), 16);
     d.due("FOUND", s.book(0), 3);
+    d.due("TRUST of one that is still 44", s.told(4, 5), 38);
+    s.set(3, 4, 16);
+    s.set(4, 5, 4);
+    s.seed(Due.seedFor(4));
+    d.due("TRUST 1 is not out", s.tides(1), 0);
+    d.due("its TRUST", s.told(4, 5), 1);
+    d.due("its LAID", s.told(4, 4), 4);
+    s.seed(Due.seedFor(4));
+    d.due("out, beside those that were FOUND", s.tides(1), 1);
+    d.due("FOUND then", s.book(0), 4);
     d.due("tides(100)", s.tides(100) >= 0 ? 1 : 0, 1);
   }
 
@@ -185,6 +195,9 @@ public final class TidesTest {
     s.set(1, 5, 20);
     s.seed(Due.seedFor(14, 15));
     d.due("none beyond the wall counts", s.best(1, 2, 0), 0);
+    s.seed(Due.seedFor(7, 15));
+    d.due("nowhere is no place", s.best(1, 2, 1), 0);
+    d.due("all alike: the least", s.best(1, 2, 0), 0);
     d.due("best(2, 1, 0)", s.best(2, 1, 0), Due.BAD);
     d.due("best(-1, 1, 0)", s.best(-1, 1, 0), Due.BAD);
     d.due("best(0, 0, 0)", s.best(0, 0, 0), Due.BAD);
@@ -227,7 +240,7 @@ public final class TidesTest {
     d.due("no RUBBINGS", s.whose(0, 0), Due.NONE);
     d.due("no RUBBINGS, what 1", s.whose(0, 1), Due.NONE);
     s.rubbing(0, Due.raw("3333"), 4);
-    s.rubbing(0, Due.raw("12"), 2);
+    s.rubbing(0, Due.raw("1233"), 2);
     s.rubbing(0, Due.raw("1200"), 4);
     s.mark(0, 0, 1);
     s.mark(0, 1, 2);

@@ -159,6 +159,8 @@ public final class WallTest {
     StoneSheets s = new StoneSheets();
     d.due("carve(0, 3)", s.carve(0, 3), 0);
     d.due("carve(0, 1)", s.carve(0, 1), 3);
+    d.due("carve(15, 3)", s.carve(15, 3), 0);
+    d.due("carve(15, 0)", s.carve(15, 0), 3);
     d.due("carve(15, 2)", s.carve(15, 2), 0);
     d.due("carve(0, 4)", s.carve(0, 4), Due.BAD);
     d.due("carve(0, -1)", s.carve(0, -1), Due.BAD);

@@ -6,7 +6,7 @@ public final class StoneSheets {
 
     private static final int PLACES = 16, NOWHERE = 16, MARKS = 4;
     private static final int MOST_RUBBINGS = 9, MOST_RAW = 65535, MOST_SIZE = 8, MOST_TRUST = 99, FIRST_TRUST = 50;
-    private static final int RUBBING = 0, BOLD = 1, FAINT = 2, TWICE = 3, CRACKED = 4, MADE = 5, KINDS = 6;
+    private static final int BOLD = 1, FAINT = 2, TWICE = 3, CRACKED = 4, MADE = 5, KINDS = 6;
     private static final int RAW_VALUE = 1, SIZE_VALUE = 2, TURNED_VALUE = 3, LAID_VALUE = 4, TRUST_VALUE = 5;
     private static final int MOST_TIDES = 9999, LASTING_TIDES = 300;
     private static final int GAIN = 0, FEE = 1, FINE = 2, KEYS = 3, PLAIN_GAIN = 3;

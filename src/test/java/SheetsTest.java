@@ -6,7 +6,7 @@ public final class SheetsTest {
   private static String row(StoneSheets s, int sheet) {
     s.lay(4, 2, sheet);
     StringBuilder row = new StringBuilder();
-    for (int k = 0; s.item(4, k) != Due.INDEX; k++) row.append(row.length() > 0 ? " " : "").append(s.item(4, k) == Due.KIND ? "-" : String.valueOf(s.item(4, k)));
+    for (int k = 0; k < 99 && s.item(4, k) != Due.INDEX; k++) row.append(row.length() > 0 ? " " : "").append(s.item(4, k) == Due.KIND ? "-" : String.valueOf(s.item(4, k)));
     return row.toString();
   }
 

@@ -4,7 +4,7 @@ import java.util.LinkedHashMap;
 import java.util.Map;
 
 /** Calls of StoneSheets by name. */
-final class Caller {
+final class Caller implements Calls {
   /** Every method of the face, with what each of its arguments is (the kinds that RandomRunsTest draws). */
   static final Map<String, String[]> FACE = new LinkedHashMap<>();
 
@@ -27,13 +27,16 @@ final class Caller {
 
   private final Map<String, Method> methods = new LinkedHashMap<>();
   private final StoneSheets sheets;
+  /** How many there have been: what is answered behind 512 of them is free. */
+  int calls = 0;
 
   Caller(StoneSheets sheets) {
     this.sheets = sheets;
     for (Method m : StoneSheets.class.getMethods()) if (m.getDeclaringClass() == StoneSheets.class) methods.put(m.getName(), m);
   }
 
-  int call(String name, int... a) {
+  @Override public int call(String name, int... a) {
+    calls++;
     Object[] boxed = new Object[a.length];
     for (int i = 0; i < a.length; i++) boxed[i] = a[i];
     try {

@@ -4,10 +4,10 @@ import java.util.List;
 import java.util.Map;
 
 /**
- * A second telling of the document, for RandomRunsTest alone: as slow and as near to its words as can be,
+ * A second telling of the document, for RandomRunsTest and BoundsTest alone: as slow and as near to its words as can be,
  * with lists, strings, exceptions and recursion, so that a slip in the program is not made here too.
  */
-final class Model {
+final class Model implements Calls {
   static final int BAD = -1000000001, NO = -1000000002, FULL = -1000000003, NONE = -1000000005;
   static final int NOTHING = -1000000011, KIND = -1000000012, INDEX = -1000000013, SIZE = -1000000014;
 
@@ -295,7 +295,7 @@ final class Model {
   List<Integer> waiting = new ArrayList<>();
   StringBuilder tape = new StringBuilder();
 
-  int call(String name, int... a) {
+  @Override public int call(String name, int... a) {
     try { return answer(name, a); } catch (Refused r) { return r.answer; }
   }
 

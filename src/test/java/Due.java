@@ -11,6 +11,9 @@ final class Due {
 
   void promise(int number, String name) { promise = "promise " + number + ", " + name + ": "; }
 
+  /** What of the document is held to. */
+  void sentence(String words) { promise = "\"" + words + "\": "; }
+
   void due(String call, long got, long want) {
     if (got == want) { right++; return; }
     wrong++;

@@ -391,6 +391,10 @@ public final class MoreSentencesTest {
         9999*9999*21<0-9999*9999*21 => 0
         0-9999*9999*21>9999*9999*21 => 0
         (0-1=0-1)*3 => 3
+        64*64*16=0 => 0
+        64*64*16=65 => 0
+        64*64*64*64*64*4=0 => 1
+        64*64*64*64*64*2=0-64*64*64*64*64*2 => 1
         """);
     holds("what fee gives is told by fee(); without a TEXT: FOUND", "fee => 0\nrubbing 5 0 1\nset 0 4 15\nset 0 5 20\n" + seed(15)
         + "tides 1\nfee => 1\ntext fine 7\nfee => 1\ntext fee n\nfee => 1\ntides 9\nfee => 10\ntext fee f\nfee => 1\n");

@@ -538,6 +538,7 @@ public final class SentencesTest {
         + "set 1 1 1\nset 2 1 1\nundone => 263\nset 3 1 1\nundone => 240\nset 4 4 16\nundone => 224\nset 3 1 0\nundone => 232\nset 8 4 16\nset 0 4 16\nset 5 4 16\nundone => 6\nset 6 4 16\nundone => 6\n"
         + "set 7 4 16\nundone => 8\nset 3 4 16\nundone => 0\n");
     holds("UNDONE of nine, each against each", "rubbing 0 0 8 x9\n" + nine("set % 4 0") + nine("set % 1 %") + "undone => 255\n");
+    holds("UNDONE of two among others, that CLASH with none", "rubbing 0 0 1 x6\n" + nine("set % 4 %") + "undone => 0\nset 1 1 1\nset 1 4 0\nundone => 1\nset 4 1 1\nset 4 4 3\nundone => 9\nset 1 4 5\nundone => 10\n");
     holds("UNDONE of nine, of which those that lie 5 apart do not CLASH", "rubbing 4 0 8 x9\n" + nine("set % 4 %") + "undone => 247\n");
     holds("BORNE: of all sets ... that are LAID on THE WALL, and together COVER what all COVER, one of the fewest; of several the least", "borne => 0\n"
         + "rubbing 0 0 1 x9\nborne => 0\n" + nine("set % 4 %") + "borne => 511\n" + nine("set % 4 15") + "borne => 1\nset 0 4 16\nborne => 2\n"
@@ -568,7 +569,7 @@ public final class SentencesTest {
         + "told 0 5 => 20\ntold 0 4 => 15\nbook 0 => 0\ncount 1 => 0\ncount 6 => " + Due.seedFor(15) + "\nrubbing 0 0 1 => 1\nbehind 0 4 => 50\nbehind 0 5 => BAD\n");
     holds("FOUND, BEHIND n TIDES, those before too", "rubbing 5 0 1\nset 0 4 15\nset 0 5 20\n" + seed(15) + "tides 1 => 1\nbehind 0 2 => 1\nset 0 4 0\nset 0 5 1\n" + seed(0) + "behind 1 2 => 2\nbook 0 => 1\n");
     holds("without the bound of THE TIDE", "tides 100 x99\ntides 99\ncount 1 => 9999\nrubbing 5 0 1\nset 0 4 15\nset 0 5 20\n" + seed(15)
-        + "behind 1 0 => 0\nlasts => 1\nbest 0 1 0 => 0\nbest 0 1 1 => 20\ntaught 1 0 => 0\ntaught 1 1 => 0\ncarve 15 1\ntaught 1 0 => 15\ntaught 1 1 => 20\ntides 1 => 0\ntold 0 5 => 20\n");
+        + "behind 1 0 => 0\nlasts => 1\nbest 0 1 0 => 0\nbest 0 1 1 => 20\nturns 0 0\nbest 0 1 0 => 15\nbest 0 1 1 => 23\nturns 0 5\ntaught 1 0 => 0\ntaught 1 1 => 0\ncarve 15 1\ntaught 1 0 => 15\ntaught 1 1 => 20\ntides 1 => 0\ntold 0 5 => 20\n");
     holds("LASTS: behind how many TIDES (0 .. 300) none is LAID on THE WALL first", "lasts => 0\nrubbing 5 0 8\nlasts => 0\nset 0 4 15\nset 0 5 20\n" + seed(15) + "lasts => 1\n"
         + seed(0, 15) + "lasts => 2\nset 0 5 21\nset 0 2 1\nset 0 4 0\n" + seed(0, 1, 0) + "lasts => 3\nrubbing 0 0 1\nlasts => 3\nset 1 4 5\nlasts => NONE\ncount 1 => 0\n");
     holds("BEST for one, n: the place 0 .. 15 LAID on which its TRUST is greatest behind n TIDES; of several the least", "rubbing 0 0 1\n" + seed(15)
